@@ -422,15 +422,21 @@ public final class TripleTrap {
                 restOfPlace[p] = Bits.remainder(1 << p);
             }
             for (int p = 0; p < PLACES; p++) {
-                errorsByRest[restOfPlace[p]] = 1 << p;
+                enter(restOfPlace[p], 1 << p);
                 for (int q = 0; q < p; q++) {
                     int restOfPair = restOfPlace[p] ^ restOfPlace[q];
                     int pair = 1 << p | 1 << q;
-                    errorsByRest[restOfPair] = pair;
+                    enter(restOfPair, pair);
                     for (int r = 0; r < q; r++) {
-                        errorsByRest[restOfPair ^ restOfPlace[r]] = pair | 1 << r;
+                        enter(restOfPair ^ restOfPlace[r], pair | 1 << r);
                     }
                 }
+            }
+        }
+
+        private void enter(int left, int errors) {
+            if (isBelow(left, RESTS)) {
+                errorsByRest[left] = errors;
             }
         }
 
