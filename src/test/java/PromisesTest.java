@@ -158,7 +158,7 @@ public final class PromisesTest {
         due("8 wide(1)", x.wide(1), 8388608 + 3189);
         due("8 wide(4095)", x.wide(4095), 16777215);
         for (int m = 0; m < 4096; m++) {
-            due("8 weight of wide(" + m + ")", Integer.bitCount(x.wide(m)) % 4, 0);
+            due("8 weight of wide(" + m + ")", Integer.bitCount(fresh().wide(m)) % 4, 0);
         }
         for (int wrong : new int[] {-1, 4096, LOW, HIGH}) {
             due("8 wide(" + wrong + ")", x.wide(wrong), OUTSIDE);
@@ -196,8 +196,8 @@ public final class PromisesTest {
     }
 
     private static void keeps() {
-        TripleTrap x = fresh();
         for (int a = 1; a <= 22; a++) {
+            TripleTrap x = fresh();
             boolean square = false;
             for (int s = 1; s <= 22; s++) {
                 square |= s * s % 23 == a;
@@ -206,7 +206,7 @@ public final class PromisesTest {
                 due("10 keeps(" + a + ", " + b + ")", x.keeps(a, b), square ? 1 : 0);
             }
         }
-        wrongMoves("10 keeps", x::keeps);
+        wrongMoves("10 keeps", fresh()::keeps);
     }
 
     private static void moved() {
