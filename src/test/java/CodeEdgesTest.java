@@ -281,6 +281,7 @@ public final class CodeEdgesTest {
         readDue(3, 0, 2);
         readDue(7, 0, 3);
         readDue(15, NONE, NONE);
+        readDue(5279 ^ places(5, 11, 22), 2, 3);
         readDue(16777215 ^ 7, 4095, 3);
         readDue(16777215 ^ 15, NONE, NONE);
     }

@@ -99,7 +99,8 @@ public final class ImageEdgesTest {
         TripleTrap x = fresh();
         State.tell(x, 3);
         x.image(0);
-        x.drop(1);
+        x.drop(0);
+        x.drop(0);
         x.move(18, 22);
         x.sure(5, 5);
         x.restore(0);
@@ -180,8 +181,8 @@ public final class ImageEdgesTest {
         TripleTrap x = fresh();
         State.tell(x, 8);
         x.image(0);
-        for (int left = 7; left >= 0; left--) {
-            x.drop(left);
+        for (int i = 0; i < 8; i++) {
+            x.drop(0);
         }
         due("none are left", x.count(0), 0);
         due("restore(0)", x.restore(0), 1);

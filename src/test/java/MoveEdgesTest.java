@@ -30,6 +30,7 @@ public final class MoveEdgesTest {
         openWithoutMoves();
         coveredIsPlacesZeroToTen();
         coveredWrapsAround();
+        theFirstOpenByTheseNumbers();
         openOfEight();
         openIsAsThingsAre();
         CHECK.end();
@@ -316,6 +317,16 @@ public final class MoveEdgesTest {
         openDue(with(1, 0, 1, 1), 1771 - 165 - 45, 0, 1, 11);
     }
 
+    /**
+     * (1, 0) brings 0 to 10, (1, 6) 17 to 22 and 0 to 4, (2, 1) 11 to 16 and 0 to 4: all three share 0 to 4 and leave
+     * no place out, so that 0, 5 and 11 are the first that are open.
+     */
+    private static void theFirstOpenByTheseNumbers() {
+        openDue(with(1, 0, 1, 6), 1771 - 165 - 155, 0, 1, 11);
+        openDue(with(1, 0, 1, 6, 2, 1), 1771 - 165 - 155 - 155, 0, 5, 11);
+        openDue(with(2, 1, 1, 6), 1771 - 165 - 155, 0, 1, 5);
+    }
+
     /** Eight of the same are one; eight unlike ones leave some open, as 8 times 165 is less than 1771. */
     private static void openOfEight() {
         openDue(with(1, 0, 1, 0, 1, 0, 1, 0, 1, 0, 1, 0, 1, 0, 1, 0), 1771 - 165, 0, 1, 11);
@@ -326,6 +337,7 @@ public final class MoveEdgesTest {
         }
         due("open and brought are all", x.open(0) + brought, 1771);
         CHECK.holds("some are always open", x.open(0) >= 1771 - 8 * 165 && x.open(1) >= 25);
+        due("far on", with(16, 2, 18, 2, 3, 9, 3, 2, 2, 5, 6, 5, 1, 4, 4, 7).open(1), 23 * 14 + 16);
     }
 
     private static void openIsAsThingsAre() {

@@ -142,10 +142,13 @@ public final class SureEdgesTest {
         weakDue(x, 22, 0, 1, 2);
     }
 
+    /** The errors count alone: whichever word of the code is changed in the same places, the same comes of it. */
     private static void chosenDue(TripleTrap x, int word, int t, int best, int loss, int tryNumber) {
-        due("chosen of " + word + " by " + t, x.chosen(word, t, 0), best);
-        due("loss of " + word + " by " + t, x.chosen(word, t, 1), loss);
-        due("try of " + word + " by " + t, x.chosen(word, t, 2), tryNumber);
+        for (int code : new int[] {0, KEY, KEY << 11, ALL}) {
+            due("chosen of " + (word ^ code) + " by " + t, x.chosen(word ^ code, t, 0), best ^ code);
+            due("loss of " + (word ^ code) + " by " + t, x.chosen(word ^ code, t, 1), loss);
+            due("try of " + (word ^ code) + " by " + t, x.chosen(word ^ code, t, 2), tryNumber);
+        }
     }
 
     /** "2 to the power of t of them": with t of 0 it is what is nearest, however sure places are. */
