@@ -161,6 +161,7 @@ public final class TermsTest {
         refused(State.FULL, "12 a ninth move without a", (x, n) -> x.move(n[0], n[1]), OUTSIDE, 0, 0);
         refused(State.FULL, "12 a ninth move without b", (x, n) -> x.move(n[0], n[1]), OUTSIDE, 1, 23);
     }
+
     /** "NONE -6 is answered only where no refusal fits": 15 is not read, nor freed by these eight moves. */
     private static void noneOnlyWhereNoRefusalFits() {
         for (int what : Calls.beyond(0, 1)) {
